@@ -1,4 +1,5 @@
 import java.util.ArrayList;
+import java.util.Arrays;
 import java.util.HashMap;
 import java.util.List;
 import java.util.Map;
@@ -10,10 +11,16 @@ import java.util.Random;
  */
 public final class ModelTest {
     private static final int RUNS = 600;
+    /** As many as the document allows an object: what later calls answer is free. */
     private static final int CALLS = 512;
     private static final long OUT = Long.MIN_VALUE;
     private static final long ILLEGAL = Long.MIN_VALUE + 1;
     private static final int FAR = 1_000_000;
+    private static final int NONE = RuleChoice.NONE;
+    private static final int[] WILD_INTS = {-2, -1, 6, 7, 8, 12, 15, 16, 39, 40, 41, 1000, 1001, -1000, -1001,
+        Integer.MIN_VALUE, Integer.MAX_VALUE};
+    private static final long[] WILD_LONGS = {FAR, FAR + 1, -FAR, -FAR - 1, Long.MIN_VALUE, Long.MAX_VALUE,
+        1L << 32, -(1L << 32)};
 
     public static void main(String[] args) {
         for (int seed = 0; seed < RUNS && Check.clean(); seed++) {
@@ -22,18 +29,46 @@ public final class ModelTest {
         Check.end("ModelTest");
     }
 
+    private enum Op {
+        RULE(5, 1), RANK(1, 1), AREA(1, 1), IN_AREA(1, 1), THING(5, 1), MAKE(1, 2), MOVE(1, 6), WINNER(2, 12),
+        VALUE(1, 3), LISTED(1, 3), WHY(1, 4), GREATEST(1, 1), CLOSE(1, 2), PAIR(1, 4), KEPT(3, 8), SPARED(1, 4);
+
+        /** How often it is drawn, while the run is young and after that. */
+        final int early;
+        final int late;
+
+        Op(int early, int late) {
+            this.early = early;
+            this.late = late;
+        }
+
+        static Op draw(Random random, boolean young) {
+            int sum = 0;
+            for (Op op : values()) {
+                sum += young ? op.early : op.late;
+            }
+            int left = random.nextInt(sum);
+            for (Op op : values()) {
+                left -= young ? op.early : op.late;
+                if (left < 0) {
+                    return op;
+                }
+            }
+            throw new IllegalStateException("the weights were summed wrongly");
+        }
+    }
+
     /** One object, its model, and the source of the arguments. */
     private static final class Run {
         private final Random random;
         private final int seed;
         private final int classes;
-        /** How many calls of a hundred get wild arguments. */
+        /** How many of a hundred arguments are wild. */
         private final int wild;
         /** Small spreads make things meet in areas and near one another. */
         private final int spread;
         private final RuleChoice real;
         private final Model model;
-        private String call = "";
 
         Run(int seed) {
             this.seed = seed;
@@ -53,25 +88,20 @@ public final class ModelTest {
         }
 
         private void step(int number) {
-            int what = number < 60 ? random.nextInt(12) : random.nextInt(44);
-            int[] n = new int[4];
-            long[] p = new long[4];
-            draw(what, n, p);
-            call = "seed " + seed + ", call " + number + ", operation " + what + " of "
-                    + java.util.Arrays.toString(n) + java.util.Arrays.toString(p);
-            long want = Ops.onModel(model, what, n, p);
+            Op op = Op.draw(random, number < 80);
+            int[] n = numbers(op);
+            long[] p = places(op);
+            String call = "seed " + seed + ", call " + number + ": " + op + Arrays.toString(n) + Arrays.toString(p);
             long got;
             try {
-                got = Ops.onReal(real, what, n, p);
+                got = onReal(real, op, n, p);
             } catch (RuntimeException e) {
-                got = codeOf(e);
+                got = codeOf(call, e);
             }
-            Check.due(call, got, want);
-            Check.due(call + ", then kept()", real.kept(), model.kept.size());
-            Check.due(call + ", then spared()", real.spared(), model.spared);
+            Check.due(call, got, onModel(model, op, n, p));
         }
 
-        private long codeOf(RuntimeException e) {
+        private long codeOf(String call, RuntimeException e) {
             if (e.getClass() == IndexOutOfBoundsException.class) {
                 return OUT;
             }
@@ -82,148 +112,114 @@ public final class ModelTest {
             return 0;
         }
 
-        private void draw(int what, int[] n, long[] p) {
-            for (int i = 0; i < 4; i++) {
-                p[i] = place();
-            }
-            if (what == Ops.AREA && random.nextInt(8) != 0) {
-                sort(p);
-            }
-            Ops.bounds(what, model, classes, n);
-            for (int i = 0; i < 4; i++) {
-                n[i] = number(n[i], what, i);
-            }
-            if (what == Ops.RULE) {
-                p[0] = random.nextInt(100) < wild ? wildLong() : random.nextInt(spread + 2);
-                p[0] = Math.min(p[0], FAR + 1);
-            }
-            if (what == Ops.RANK) {
-                n[1] = random.nextInt(100) < wild ? wildInt() : random.nextInt(7) - 3;
-            }
+        private int[] numbers(Op op) {
+            int things = model.things.size();
+            int rules = model.rules.size();
+            return switch (op) {
+                case RULE -> some(below(3), below(classes, NONE), below(classes, NONE), below(8, NONE));
+                case RANK -> some(below(rules), below(7) - 3);
+                case IN_AREA -> some(below(rules), below(model.areas.size(), NONE));
+                case THING -> some(below(classes), below(3));
+                case MAKE -> some(below(things), below(classes), below(3));
+                case MOVE -> some(below(things));
+                case WINNER, VALUE -> some(below(3), below(things), below(things));
+                case LISTED -> some(below(3), below(things), below(things), below(6));
+                case WHY -> some(below(3), below(things), below(things), below(rules));
+                case GREATEST -> some(below(4), below(8));
+                case CLOSE -> some(below(3));
+                case PAIR -> some(below(model.pairs.size() + 2), below(2));
+                case AREA, KEPT, SPARED -> some();
+            };
         }
 
-        private void sort(long[] p) {
-            long x0 = Math.min(p[0], p[2]);
-            long x1 = Math.max(p[0], p[2]);
-            long y0 = Math.min(p[1], p[3]);
-            long y1 = Math.max(p[1], p[3]);
-            p[0] = x0;
-            p[1] = y0;
-            p[2] = x1;
-            p[3] = y1;
+        private int[] some(int... ordinary) {
+            for (int i = 0; i < ordinary.length; i++) {
+                if (random.nextInt(100) < wild) {
+                    ordinary[i] = WILD_INTS[random.nextInt(WILD_INTS.length)];
+                }
+            }
+            return ordinary;
         }
 
-        private int number(int bound, int what, int position) {
-            if (random.nextInt(100) < wild) {
-                return wildInt();
-            }
-            boolean mayBeNone = (what == Ops.RULE && position > 0) || (what == Ops.IN_AREA && position == 1);
-            if (mayBeNone && random.nextInt(2) == 0) {
-                return -1;
-            }
+        private int below(int bound) {
             return bound < 1 ? 0 : random.nextInt(bound);
         }
 
-        private long place() {
-            return random.nextInt(200) < wild ? wildLong() : random.nextInt(2 * spread + 1) - spread;
+        private int below(int bound, int orThis) {
+            return bound < 1 || random.nextInt(2) == 0 ? orThis : random.nextInt(bound);
         }
 
-        private int wildInt() {
-            int[] some = {-2, -1, 6, 7, 8, 12, 15, 16, 39, 40, 41, 1000, 1001, -1000, -1001,
-                Integer.MIN_VALUE, Integer.MAX_VALUE};
-            return some[random.nextInt(some.length)];
+        private long[] places(Op op) {
+            return switch (op) {
+                case RULE -> new long[] {orWild(random.nextInt(spread + 1))};
+                case THING, MOVE -> new long[] {coordinate(), coordinate()};
+                case AREA -> corners();
+                default -> new long[0];
+            };
         }
 
-        private long wildLong() {
-            long[] some = {FAR, FAR + 1, -FAR, -FAR - 1, Long.MIN_VALUE, Long.MAX_VALUE, 1L << 32, -(1L << 32)};
-            return some[random.nextInt(some.length)];
+        private long[] corners() {
+            long[] p = {coordinate(), coordinate(), coordinate(), coordinate()};
+            boolean mayBeTurned = random.nextInt(8) == 0;
+            if (mayBeTurned) {
+                return p;
+            }
+            return new long[] {Math.min(p[0], p[2]), Math.min(p[1], p[3]), Math.max(p[0], p[2]), Math.max(p[1], p[3])};
+        }
+
+        private long coordinate() {
+            return orWild(random.nextInt(2 * spread + 1) - spread);
+        }
+
+        private long orWild(long ordinary) {
+            return random.nextInt(100) < wild ? WILD_LONGS[random.nextInt(WILD_LONGS.length)] : ordinary;
         }
     }
 
-    /** The operations by number, on the class and on the model. */
-    private static final class Ops {
-        static final int RULE = 0;
-        static final int RANK = 2;
-        static final int AREA = 3;
-        static final int IN_AREA = 4;
+    private static long onReal(RuleChoice x, Op op, int[] n, long[] p) {
+        return switch (op) {
+            case RULE -> x.rule(n[0], n[1], n[2], n[3], p[0]);
+            case RANK -> bit(x.rank(n[0], n[1]));
+            case AREA -> x.area(p[0], p[1], p[2], p[3]);
+            case IN_AREA -> bit(x.inArea(n[0], n[1]));
+            case THING -> x.thing(n[0], n[1], p[0], p[1]);
+            case MAKE -> bit(x.make(n[0], n[1], n[2]));
+            case MOVE -> bit(x.move(n[0], p[0], p[1]));
+            case WINNER -> x.winner(n[0], n[1], n[2]);
+            case VALUE -> x.value(n[0], n[1], n[2]);
+            case LISTED -> x.listed(n[0], n[1], n[2], n[3]);
+            case WHY -> x.why(n[0], n[1], n[2], n[3]);
+            case GREATEST -> x.greatest(n[0], n[1]);
+            case CLOSE -> x.close(n[0]);
+            case PAIR -> x.pair(n[0], n[1]);
+            case KEPT -> x.kept();
+            case SPARED -> x.spared();
+        };
+    }
 
-        /** Below which number each argument stays in an ordinary call. */
-        static void bounds(int what, Model m, int classes, int[] n) {
-            int things = m.things.size();
-            int rules = m.rules.size();
-            switch (kindOf(what)) {
-                case 0 -> set(n, 3, classes, classes, 8);
-                case 2, 4 -> set(n, rules, m.areas.size(), 1, 1);
-                case 5 -> set(n, classes, 3, 1, 1);
-                case 7 -> set(n, things, classes, 3, 1);
-                case 8 -> set(n, things, 1, 1, 1);
-                case 9, 10 -> set(n, 3, things, things, 1);
-                case 11 -> set(n, 3, things, things, 6);
-                case 12 -> set(n, 3, things, things, rules);
-                case 13 -> set(n, 4, 8, 1, 1);
-                case 14 -> set(n, 3, 1, 1, 1);
-                case 15 -> set(n, m.pairs.size() + 2, 2, 1, 1);
-                default -> set(n, 1, 1, 1, 1);
-            }
-        }
+    private static long bit(boolean b) {
+        return b ? 1 : 0;
+    }
 
-        private static void set(int[] n, int a, int b, int c, int d) {
-            n[0] = a;
-            n[1] = b;
-            n[2] = c;
-            n[3] = d;
-        }
-
-        /** Folds the many numbers drawn onto the calls, the questions more often than the rest. */
-        private static int kindOf(int what) {
-            int[] fold = {0, 5, 2, 3, 4, 5, 5, 7, 8, 9, 10, 11, 12, 13, 14, 15};
-            if (what < fold.length) {
-                return fold[what];
-            }
-            return what < 28 ? 9 : what < 33 ? 8 : what < 36 ? 12 : what < 40 ? 15 : what < 42 ? 14 : 11;
-        }
-
-        static long onReal(RuleChoice x, int what, int[] n, long[] p) {
-            return switch (kindOf(what)) {
-                case 0 -> x.rule(n[0], n[1], n[2], n[3], p[0]);
-                case 2 -> bit(x.rank(n[0], n[1]));
-                case 3 -> x.area(p[0], p[1], p[2], p[3]);
-                case 4 -> bit(x.inArea(n[0], n[1]));
-                case 5 -> x.thing(n[0], n[1], p[0], p[1]);
-                case 7 -> bit(x.make(n[0], n[1], n[2]));
-                case 8 -> bit(x.move(n[0], p[0], p[1]));
-                case 9 -> x.winner(n[0], n[1], n[2]);
-                case 10 -> x.value(n[0], n[1], n[2]);
-                case 11 -> x.listed(n[0], n[1], n[2], n[3]);
-                case 12 -> x.why(n[0], n[1], n[2], n[3]);
-                case 13 -> x.greatest(n[0], n[1]);
-                case 14 -> x.close(n[0]);
-                default -> x.pair(n[0], n[1]);
-            };
-        }
-
-        static long onModel(Model x, int what, int[] n, long[] p) {
-            return switch (kindOf(what)) {
-                case 0 -> x.rule(n[0], n[1], n[2], n[3], p[0]);
-                case 2 -> x.rank(n[0], n[1]);
-                case 3 -> x.area(p[0], p[1], p[2], p[3]);
-                case 4 -> x.inArea(n[0], n[1]);
-                case 5 -> x.thing(n[0], n[1], p[0], p[1]);
-                case 7 -> x.make(n[0], n[1], n[2]);
-                case 8 -> x.move(n[0], p[0], p[1]);
-                case 9 -> x.winner(n[0], n[1], n[2]);
-                case 10 -> x.value(n[0], n[1], n[2]);
-                case 11 -> x.listed(n[0], n[1], n[2], n[3]);
-                case 12 -> x.why(n[0], n[1], n[2], n[3]);
-                case 13 -> x.greatest(n[0], n[1]);
-                case 14 -> x.close(n[0]);
-                default -> x.pair(n[0], n[1]);
-            };
-        }
-
-        private static long bit(boolean b) {
-            return b ? 1 : 0;
-        }
+    private static long onModel(Model x, Op op, int[] n, long[] p) {
+        return switch (op) {
+            case RULE -> x.rule(n[0], n[1], n[2], n[3], p[0]);
+            case RANK -> x.rank(n[0], n[1]);
+            case AREA -> x.area(p[0], p[1], p[2], p[3]);
+            case IN_AREA -> x.inArea(n[0], n[1]);
+            case THING -> x.thing(n[0], n[1], p[0], p[1]);
+            case MAKE -> x.make(n[0], n[1], n[2]);
+            case MOVE -> x.move(n[0], p[0], p[1]);
+            case WINNER -> x.winner(n[0], n[1], n[2]);
+            case VALUE -> x.value(n[0], n[1], n[2]);
+            case LISTED -> x.listed(n[0], n[1], n[2], n[3]);
+            case WHY -> x.why(n[0], n[1], n[2], n[3]);
+            case GREATEST -> x.greatest(n[0], n[1]);
+            case CLOSE -> x.close(n[0]);
+            case PAIR -> x.pair(n[0], n[1]);
+            case KEPT -> x.kept.size();
+            case SPARED -> x.spared;
+        };
     }
 
     private static final class ModelRule {
