@@ -6,8 +6,14 @@ final class Check {
 
     private static int done = 0;
     private static int wrong = 0;
+    private static String about = "";
 
     private Check() {
+    }
+
+    /** What the checks from here on are for; it is told with every fault. */
+    static void about(String words) {
+        about = words + ": ";
     }
 
     static void due(String call, long got, long want) {
@@ -49,7 +55,7 @@ final class Check {
 
     static void tell(String fault) {
         wrong++;
-        System.out.println(fault);
+        System.out.println(about + fault);
     }
 
     static boolean clean() {
