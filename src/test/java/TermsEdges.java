@@ -199,7 +199,9 @@ final class TermsEdges {
         for (int a = 0; a < 4; a++) {
             for (int b = 0; b < 4; b++) {
                 boolean firstAndLast = (a == 0 && b == 3) || (a == 3 && b == 0);
-                boolean[] due = {firstAndLast, firstAndLast, a == 3 && b == 3, a == 3 || b == 3, a == 0 || b == 0, true};
+                boolean aLast = a == 3 || b == 3;
+                boolean aFirst = a == 0 || b == 0;
+                boolean[] due = {firstAndLast, firstAndLast, a == 3 && b == 3, aLast, aFirst, true};
                 for (int kind = 0; kind < due.length; kind++) {
                     String call = "winner(" + kind + ", " + a + ", " + b + ")";
                     Check.due(call, x.winner(kind, a, b), due[kind] ? kind : NONE);
@@ -253,7 +255,8 @@ final class TermsEdges {
     }
 
     private static void winner() {
-        Doc.terms("The WINNER of those that match is the one with the greatest RANK, of the same RANK the one told last.");
+        Doc.terms("The WINNER of those that match is the one with the greatest RANK, "
+                + "of the same RANK the one told last.");
         ranked(0, 0, 1);
         ranked(1, 0, 0);
         ranked(0, -1, 0);
@@ -380,7 +383,7 @@ final class TermsEdges {
         x.winner(kind, 39, 39);
     }
 
-    /** Three answers are gone, and it was those of that kind: no other is found again but by its keep. */
+    /** Three answers are gone, and they are those of that kind: asked again, none of them is found. */
     private static void dropped(RuleChoice x, int kind, String by) {
         long before = x.spared();
         counts(x, 15, before, by + ", kind " + kind);
