@@ -1,6 +1,9 @@
-/** What the tests share: compares answers with those that are due, counts, and ends the program. */
-final class Check {
-    interface Call {
+/**
+ * What the tests share: compares answers with those that are due, counts, and ends the program. What
+ * ReadmeTest's own class calls is public, since another loader loads that class.
+ */
+public final class Check {
+    public interface Call {
         void run();
     }
 
@@ -16,25 +19,25 @@ final class Check {
         about = words + ": ";
     }
 
-    static void due(String call, long got, long want) {
+    public static void due(String call, long got, long want) {
         done++;
         if (got != want) {
             tell(call + " answered " + got + ", due is " + want);
         }
     }
 
-    static void due(String call, boolean got, boolean want) {
+    public static void due(String call, boolean got, boolean want) {
         done++;
         if (got != want) {
             tell(call + " answered " + got + ", due is " + want);
         }
     }
 
-    static void outOfBounds(String call, Call body) {
+    public static void outOfBounds(String call, Call body) {
         throwsExactly(call, IndexOutOfBoundsException.class, body);
     }
 
-    static void illegal(String call, Call body) {
+    public static void illegal(String call, Call body) {
         throwsExactly(call, IllegalArgumentException.class, body);
     }
 

@@ -3,6 +3,7 @@ import java.nio.file.Files;
 import java.nio.file.Path;
 import java.util.BitSet;
 import java.util.LinkedHashMap;
+import java.util.List;
 import java.util.Map;
 
 /**
@@ -19,15 +20,10 @@ final class Doc {
 
     /** Reads the sections whose sentences bind: "Terms" and each "Promise n". */
     static void open() {
-        if (!Files.isReadable(FILE)) {
-            System.out.println(FILE + " is not here: the sentences are not compared with it");
-            return;
-        }
-        for (String section : read().split("\n## ")) {
-            int end = section.indexOf('\n');
-            String title = end < 0 ? section : section.substring(0, end);
+        for (String section : sections()) {
+            String title = titleOf(section);
             if (title.equals("Terms") || title.startsWith("Promise ")) {
-                SECTIONS.put(title.replaceFirst(":.*", ""), plain(section.substring(end)));
+                SECTIONS.put(title.replaceFirst(":.*", ""), plain(section.substring(title.length())));
             }
         }
         for (String section : SECTIONS.keySet()) {
@@ -35,12 +31,30 @@ final class Doc {
         }
     }
 
-    private static String read() {
+    /** A section's lines as they stand in the document; none, when the document is not here. */
+    static List<String> linesOf(String title) {
+        for (String section : sections()) {
+            if (titleOf(section).equals(title)) {
+                return section.lines().skip(1).toList();
+            }
+        }
+        return List.of();
+    }
+
+    private static String titleOf(String section) {
+        return section.lines().findFirst().orElse("");
+    }
+
+    private static String[] sections() {
+        if (!Files.isReadable(FILE)) {
+            System.out.println(FILE + " is not here: nothing is compared with it");
+            return new String[0];
+        }
         try {
-            return Files.readString(FILE);
+            return Files.readString(FILE).split("\n## ");
         } catch (IOException e) {
             Check.tell("the document can't be read: " + e);
-            return "";
+            return new String[0];
         }
     }
 

@@ -3,8 +3,11 @@ import java.lang.reflect.Field;
 import java.lang.reflect.Method;
 import java.lang.reflect.Modifier;
 import java.util.Arrays;
+import java.util.List;
 import java.util.Set;
 import java.util.TreeSet;
+import java.util.regex.Matcher;
+import java.util.regex.Pattern;
 
 /** The public face is the document's, with the exceptions that it names, and nothing beside it. */
 public final class FaceTest {
@@ -30,14 +33,53 @@ public final class FaceTest {
         "int kept()",
         "long spared()",
     };
+    /** A method as the document writes it: what it answers, its name, its arguments, what it throws. */
+    private static final Pattern TOLD = Pattern.compile(" *public (\\w+) (\\w+)\\((.*)\\)(?: throws (.*))?;");
 
     public static void main(String[] args) {
-        Check.due("RuleChoice's modifiers", RuleChoice.class.getModifiers(), Modifier.PUBLIC | Modifier.FINAL);
+        itself();
+        document();
         methods();
         constructors();
         fields();
         nestedClasses();
         Check.end("FaceTest");
+    }
+
+    private static void itself() {
+        Check.due("RuleChoice's modifiers", RuleChoice.class.getModifiers(), Modifier.PUBLIC | Modifier.FINAL);
+        Check.due("RuleChoice is in no package", RuleChoice.class.getPackageName().isEmpty(), true);
+        Check.due("RuleChoice is below Object alone", RuleChoice.class.getSuperclass() == Object.class, true);
+        Check.due("number of RuleChoice's interfaces", RuleChoice.class.getInterfaces().length, 0);
+    }
+
+    /** The row above is the document's. */
+    private static void document() {
+        List<String> lines = Doc.linesOf("The public face");
+        if (lines.isEmpty()) {
+            return;
+        }
+        Set<String> told = new TreeSet<>();
+        for (String line : lines) {
+            Matcher m = TOLD.matcher(line);
+            if (m.matches()) {
+                told.add(signature(m));
+            }
+        }
+        Check.due("the document's face " + told + " is the one looked for",
+                told.equals(new TreeSet<>(Arrays.asList(METHODS))), true);
+        Check.due("the document tells NONE",
+                lines.contains("    public static final int NONE = -1;"), true);
+        Check.due("the document tells the constructor", lines.contains("    public RuleChoice(int classes);"), true);
+    }
+
+    private static String signature(Matcher told) {
+        String types = told.group(3).replaceAll(" \\w+(, )?", ",").replaceFirst(",$", "");
+        String thrown = "";
+        if (told.group(4) != null) {
+            thrown = " throws " + String.join(" ", new TreeSet<>(Arrays.asList(told.group(4).split(", "))));
+        }
+        return told.group(1) + " " + told.group(2) + "(" + types + ")" + thrown;
     }
 
     private static void methods() {
@@ -80,7 +122,8 @@ public final class FaceTest {
     private static void constructors() {
         Constructor<?>[] all = RuleChoice.class.getDeclaredConstructors();
         Check.due("number of constructors", all.length, 1);
-        Check.due("constructor is public", Modifier.isPublic(all[0].getModifiers()), true);
+        Check.due("constructor's modifiers", all[0].getModifiers(), Modifier.PUBLIC);
+        Check.due("number of the constructor's exceptions", all[0].getExceptionTypes().length, 0);
         Check.due("constructor takes one int",
                 Arrays.equals(all[0].getParameterTypes(), new Class<?>[] {int.class}), true);
     }
@@ -93,6 +136,7 @@ public final class FaceTest {
                 visible++;
                 Check.due("visible field " + f.getName() + " is NONE", f.getName().equals("NONE"), true);
                 Check.due("NONE's modifiers", m, Modifier.PUBLIC | Modifier.STATIC | Modifier.FINAL);
+                Check.due("NONE is an int", f.getType() == int.class, true);
             }
             Check.due("static field " + f.getName() + " is final",
                     !Modifier.isStatic(m) || Modifier.isFinal(m), true);
